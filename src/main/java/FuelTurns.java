@@ -342,10 +342,12 @@ public final class FuelTurns {
         if (!now.isOpen(w)) {
             return finding(STATE);
         }
-        planner.make(now, n);
-        long without = planner.worth;
-        long ifReal = worthBehind(warning, w.chanceBehind(sureness, true), n, without);
-        long ifNot = worthBehind(warning, w.chanceBehind(sureness, false), n, without);
+        long without = planner.make(now, n);
+        trial.become(now);
+        trial.warnings[warning].chance = w.chanceIfItCanBe(sureness, true);
+        long ifReal = planner.make(trial, n);
+        trial.warnings[warning].chance = w.chanceIfItCanBe(sureness, false);
+        long ifNot = planner.make(trial, n);
         long m = w.chanceToTell(sureness);
         return (ifReal * m + ifNot * (MILLION - m)) / MILLION - without;
     }
@@ -618,17 +620,6 @@ public final class FuelTurns {
         return 0;
     }
 
-    /** What the BEST is worth if a WARNING's CHANCE were another one. */
-    private long worthBehind(int warning, int chance, int n, long without) {
-        if (chance == Warning.CANT_BE) {
-            return without;
-        }
-        trial.become(now);
-        trial.warnings[warning].chance = chance;
-        planner.make(trial, n);
-        return planner.worth;
-    }
-
     /** DANGER of the next n DAYS if it moves BY THE RULE: LOTS change none of its MOVES. */
     private void foresee(int n) {
         trial.become(now);
@@ -717,28 +708,18 @@ public final class FuelTurns {
         }
 
         int strikeAt(int height) {
-            int far = farFrom(height);
+            int d = height > at ? height - at : at - height;
+            boolean isPact = kind == PACT || kind == OWN;
+            int far = kind == SWARM ? d / 2 : isPact && d > 0 ? d + 1 : d;
             int reach = width + 1;
             int plain = reach < 1 || far >= reach ? 0 : chance * (reach - far) / reach;
+            int more = plain + plain / 2;
+            int close = more > MILLION ? MILLION : more;
             switch (kind) {
-                case CLOSE: return Math.min(plain + plain / 2, MILLION);
+                case CLOSE: return close;
                 case OWN: return plain / 2;
-                case GHOST: return Math.min(plain + plain / 2, MILLION) / 4;
+                case GHOST: return close / 4;
                 default: return plain;
-            }
-        }
-
-        /** How far from AT a HEIGHT counts as being. */
-        private int farFrom(int height) {
-            int far = height > at ? height - at : at - height;
-            switch (kind) {
-                case PACT:
-                case OWN:
-                    return far == 0 ? 0 : far + 1;
-                case SWARM:
-                    return far / 2;
-                default:
-                    return far;
             }
         }
 
@@ -749,6 +730,12 @@ public final class FuelTurns {
             long isNot = (long) (MILLION - chance) * (100 - right);
             long together = is + isNot;
             return together == 0 ? CANT_BE : (int) (is * MILLION / together);
+        }
+
+        /** CHANCE behind a LOOK; as it is if the LOOK can't be. */
+        int chanceIfItCanBe(int sureness, boolean real) {
+            int behind = chanceBehind(sureness, real);
+            return behind == CANT_BE ? chance : behind;
         }
 
         /** In millionths: that a LOOK tells 1. */
@@ -899,6 +886,7 @@ public final class FuelTurns {
         private static final int RIGHT_OF_T = 1;
         private static final int LEFT_OF_LATER_T = 2;
         private static final int BEHIND_C = 3;
+        private static final int NOWHERE = -1;
 
         private static final int NAMES = 6;
         private static final int NO_NAME = -1;
@@ -909,6 +897,8 @@ public final class FuelTurns {
         private int fault = NO_FAULT;
         private int place = FIRST;
         private boolean wantsPart = true;
+        private int number = 0;
+        private int digits = 0;
         private int sum = 0;
         private int partSign = 1;
         private final int[] sumsAround = new int[MOST_OPEN];
@@ -935,6 +925,7 @@ public final class FuelTurns {
             return fault;
         }
 
+        /** What the NAMES mean now, each at the place that nameOf answers for it. */
         private void learn(World world) {
             int next = world.nextWarned();
             facts[0] = world.dangerOn(world.today + 1, world.height);
@@ -960,20 +951,24 @@ public final class FuelTurns {
         private void readText(byte[] bytes, int length) {
             fault = NO_FAULT;
             open = 0;
+            digits = 0;
             holds = true;
             chosen = false;
             beginSum(FIRST);
-            int at = 0;
-            while (at < length && fault == NO_FAULT) {
-                int sign = bytes[at] & 255;
-                if (wantsPart && isDigit(sign)) {
-                    at = readNumber(bytes, length, at);
-                } else if (wantsPart ? takesInPart(sign) : takesBehindPart(sign)) {
-                    at++;
-                } else {
+            for (int at = 0; at < length && fault == NO_FAULT; at++) {
+                int sign = bytes[at];
+                boolean isDigit = sign >= '0' && sign <= '9';
+                if (!isDigit) {
+                    endNumber();
+                }
+                boolean taken = isDigit ? takesDigit(sign - '0')
+                    : wantsPart ? takesInPart(sign)
+                    : takesBehindPart(sign) || open == 0 && takesBehindSum(sign);
+                if (!taken) {
                     fault = at;
                 }
             }
+            endNumber();
             boolean mayEnd = !wantsPart && open == 0 && place == FIRST;
             if (fault == NO_FAULT && !mayEnd) {
                 fault = length;
@@ -987,23 +982,24 @@ public final class FuelTurns {
             wantsPart = true;
         }
 
-        private static boolean isDigit(int sign) {
-            return sign >= '0' && sign <= '9';
-        }
-
-        /** Answers the place behind the number; an eighth digit is left for nothing to take. */
-        private int readNumber(byte[] bytes, int length, int from) {
-            int number = 0;
-            int at = from;
-            while (at < length && at < from + MOST_DIGITS && isDigit(bytes[at])) {
-                number = 10 * number + (bytes[at] - '0');
-                at++;
+        /** A number is a P only when it ends, so that more digits may come. */
+        private boolean takesDigit(int digit) {
+            if (!wantsPart || digits == MOST_DIGITS) {
+                return false;
             }
-            endPart(number);
-            return at;
+            number = digits == 0 ? digit : 10 * number + digit;
+            digits++;
+            return true;
         }
 
-        /** A byte where a P begins, but for a digit: whether a TEXT can go on with it. */
+        private void endNumber() {
+            if (digits > 0) {
+                digits = 0;
+                endPart(number);
+            }
+        }
+
+        /** A byte where a P begins. */
         private boolean takesInPart(int sign) {
             int name = nameOf(sign);
             if (name != NO_NAME) {
@@ -1024,8 +1020,8 @@ public final class FuelTurns {
         }
 
         /** With a P each - ends that stood right ahead of it. */
-        private void endPart(int number) {
-            int part = number;
+        private void endPart(int told) {
+            int part = told;
             while (open > 0 && signsAround[open - 1] == MINUS) {
                 part = -part;
                 open--;
@@ -1034,17 +1030,14 @@ public final class FuelTurns {
             wantsPart = false;
         }
 
-        /** A byte behind a P (so that only ( can be open): whether a TEXT can go on with it. */
+        /** A byte behind a P, so that only ( can be open: + and - go on, and ) ends what is open. */
         private boolean takesBehindPart(int sign) {
             if (sign == '+' || sign == '-') {
                 partSign = sign == '+' ? 1 : -1;
                 wantsPart = true;
                 return true;
             }
-            if (open == 0) {
-                return takesBehindSum(sign);
-            }
-            if (sign != ')') {
+            if (sign != ')' || open == 0) {
                 return false;
             }
             open--;
@@ -1055,46 +1048,55 @@ public final class FuelTurns {
             return true;
         }
 
+        /**
+         * A byte behind an S with nothing open. All of a TEXT is read, for its FAULT, though the
+         * first C that holds tells the value.
+         */
         private boolean takesBehindSum(int sign) {
+            int next = placeBehind(sign);
+            if (next == NOWHERE) {
+                return false;
+            }
+            switch (place) {
+                case RIGHT_OF_T:
+                    holds = holds && comparesRight();
+                    break;
+                case BEHIND_C:
+                    value = holds && !chosen ? sum : value;
+                    chosen = chosen || holds;
+                    holds = true;
+                    break;
+                default:
+                    left = sum;
+                    comparison = sign;
+            }
+            beginSum(next);
+            return true;
+        }
+
+        private int placeBehind(int sign) {
             switch (sign) {
                 case '<':
                 case '=':
                 case '>':
-                    return place == FIRST || place == LEFT_OF_LATER_T ? compareBy(sign) : false;
+                    return place == FIRST || place == LEFT_OF_LATER_T ? RIGHT_OF_T : NOWHERE;
                 case '&':
-                    return place == RIGHT_OF_T ? endComparison(LEFT_OF_LATER_T) : false;
+                    return place == RIGHT_OF_T ? LEFT_OF_LATER_T : NOWHERE;
                 case '?':
-                    return place == RIGHT_OF_T ? endComparison(BEHIND_C) : false;
+                    return place == RIGHT_OF_T ? BEHIND_C : NOWHERE;
                 case ':':
-                    return place == BEHIND_C ? endChoice() : false;
+                    return place == BEHIND_C ? FIRST : NOWHERE;
                 default:
-                    return false;
+                    return NOWHERE;
             }
         }
 
-        private boolean compareBy(int sign) {
-            left = sum;
-            comparison = sign;
-            beginSum(RIGHT_OF_T);
-            return true;
-        }
-
-        private boolean endComparison(int newPlace) {
-            boolean isSo = comparison == '<' ? left < sum : comparison == '>' ? left > sum : left == sum;
-            holds = holds && isSo;
-            beginSum(newPlace);
-            return true;
-        }
-
-        /** All of a TEXT is read, for its FAULT, though the first C that holds tells the value. */
-        private boolean endChoice() {
-            if (holds && !chosen) {
-                value = sum;
-                chosen = true;
+        private boolean comparesRight() {
+            switch (comparison) {
+                case '<': return left < sum;
+                case '>': return left > sum;
+                default: return left == sum;
             }
-            holds = true;
-            beginSum(FIRST);
-            return true;
         }
     }
 
@@ -1115,7 +1117,8 @@ public final class FuelTurns {
         int steps = 0;
         int moving = 0;
 
-        void make(World world, int n) {
+        /** Answers what the BEST is worth; the rest of it stands in the fields. */
+        long make(World world, int n) {
             days = Math.min(n, MOST_AHEAD);
             budget = Math.min(world.stepsLeft(), MOST_FUEL);
             for (int day = days - 1; day >= 0; day--) {
@@ -1123,6 +1126,7 @@ public final class FuelTurns {
                 spread(day);
             }
             follow(world.height + TOP);
+            return worth;
         }
 
         /** Values of a DAY that ends at a HEIGHT (told by its place, 0 the lowest). */

@@ -422,6 +422,8 @@ public final class PromisesTest {
         x.warn(0, on(6, -12, 9), 1000000);
         x.warn(0, on(6, 0, 1), 1000000);
         due("least, though not 0", x.safest(6), 2);
+        due("0", x.safest(0), 1);
+        due("999", x.safest(999), 1);
         due("-1", x.safest(-1), BEYOND);
         due("1000", x.safest(1000), BEYOND);
         due("stays", x.thing(1), 1);
@@ -535,14 +537,18 @@ public final class PromisesTest {
         x.warn(0, on(4, 2, 0), 500000);
         x.warn(0, on(3, 2, 1), 600000);
         x.warn(0, on(2, 9, 0), 600000);
+        x.warn(0, on(9, 9, 0), 600000);
+        tells(x, "n", 4, 4);
+        tells(x, "d", 2, 2);
         x.move(2);
         x.days(2);
         tells(x, "c", 600000, 7);
         tells(x, "d", 1, 1);
         tells(x, "f", 7, 7);
         tells(x, "h", 2, 2);
-        tells(x, "n", 2, 2);
+        tells(x, "n", 3, 3);
         tells(x, "t", 2, 2);
+        tells(x, "h-n-n-t-f", -13, -7);
         tells(x, "1-2-3", -4, -4);
         tells(x, "1-(2-3)", 2, 2);
         tells(x, "-1+2", 1, 1);
@@ -610,6 +616,51 @@ public final class PromisesTest {
         y.warn(0, on(999, 0, 0), 1000000);
         due("above 999", y.best(8, 0), 790);
         due("back", y.best(8, 1), 2);
+        bestAtTheEdges();
+    }
+
+    private static void bestAtTheEdges() {
+        FuelTurns x = new FuelTurns();
+        x.warn(0, on(1, 0, 0), 1000000);
+        x.plan(4, 10);
+        due("less than KEEP", x.best(1, 1), 0);
+        due("struck", x.best(1, 0), 100 - 1000000);
+        // All but one end is in DANGER: 24 steps there, and 24 back on the next DAY.
+        for (int side = -1; side <= 1; side += 2) {
+            FuelTurns y = new FuelTurns();
+            y.plan(5, 60);
+            y.move(12 * side);
+            y.plan(5, 60);
+            for (int at = -9; at <= 12; at += 5) {
+                y.warn(0, on(1, side * at, 2), 300000);
+            }
+            y.warn(0, on(2, -12 * side, 9), 1000000);
+            y.warn(0, on(2, -3 * side, 9), 1000000);
+            y.warn(0, on(2, 6 * side, 5), 1000000);
+            y.plan(1, 0);
+            due("there", y.turn(2, 0), -24 * side);
+            due("back", y.turn(2, 1), 24 * side);
+            due("fuel", y.best(2, 1), 48);
+            due("safe", y.best(2, 0), 0);
+        }
+        // Each DAY one end alone is free: 12, 24 and 24 steps take all FUEL that there can be.
+        FuelTurns z = new FuelTurns();
+        z.plan(5, 60);
+        z.plan(1, 0);
+        int[] moves = {-12, 24, -24, 0, 0, 0, 0, 0};
+        for (int day = 1; day <= 3; day++) {
+            int side = day == 2 ? -1 : 1;
+            z.warn(0, on(day, -2 * side, 9), 1000000);
+            z.warn(0, on(day, 10 * side, 2), 1000000);
+        }
+        due("safe", z.best(8, 0), 0);
+        due("steps", z.best(8, 1), 60);
+        due("days", z.best(8, 2), 3);
+        for (int i = 0; i < 8; i++) {
+            due("move " + i, z.turn(8, i), moves[i]);
+        }
+        z.plan(5, 59);
+        Check.holds("promise 22: one less is too little", z.best(8, 0) < 0);
     }
 
     private static void turn() {
@@ -625,8 +676,10 @@ public final class PromisesTest {
         due("n 9", x.turn(9, 0), BEYOND);
         due("n least", x.turn(Integer.MIN_VALUE, 0), BEYOND);
         due("last alone", x.turn(2, 1), -2);
+        due("one day", x.turn(1, 0), 0);
+        due("8 days", x.turn(8, 7), 0);
         due("no move", x.thing(1), 0);
-        // At 12 with no USE: the MOVE waits, as fewer steps come first by DAYS.
+        // Without USE: the MOVE waits, as fewer steps come first by DAYS.
         FuelTurns y = new FuelTurns();
         y.plan(1, 0);
         y.warn(0, on(3, 0, 0), 1000000);
@@ -777,6 +830,21 @@ public final class PromisesTest {
             w.days(i == 9 ? 99 : 100);
         }
         due("behind 999", w.life(7, 50), 50);
+        lots();
+    }
+
+    /** LOTS of 1, worked out with numbers that can't go round: each DAY's lot is just not, then just less. */
+    private static void lots() {
+        java.math.BigInteger l = java.math.BigInteger.ONE;
+        for (int day = 1; day <= 5; day++) {
+            l = l.multiply(java.math.BigInteger.valueOf(1103515245)).add(java.math.BigInteger.valueOf(12345));
+            int lot = l.shiftRight(16).intValue() & 65535;
+            for (int more = 0; more < 2; more++) {
+                FuelTurns x = new FuelTurns();
+                x.warn(0, on(day, 0, 0), 100 * (lot % 10000 + more));
+                due("lot of day " + day, x.life(1, 9), more == 1 ? day : 9);
+            }
+        }
     }
 
     private static void lives() {
@@ -799,6 +867,13 @@ public final class PromisesTest {
         }
         due("one by one", y.lives(Integer.MAX_VALUE - 20, 50, 5), lasting);
         Check.holds("promise 28: some last, some don't", lasting > 0 && lasting < 50);
+        // Of 0, 1, 2, .. only 0 has a lot of 0, of -1, 0, 1, .. too, but not of -2, -1.
+        FuelTurns z = new FuelTurns();
+        z.warn(0, on(1, 0, 0), 100);
+        due("from 0 on", z.lives(0, 2, 1), 1);
+        due("from 1 on", z.lives(1, 2, 1), 2);
+        due("from -1 on", z.lives(-1, 2, 1), 1);
+        due("from -2 on", z.lives(-2, 2, 1), 2);
     }
 
     private static void rests() {
@@ -810,6 +885,7 @@ public final class PromisesTest {
         due("both go", x.rests(0), 8);
         sheetOf(x, 0, 16, 0, 0, 0, 0, 0, 0, 0, 0);
         due("all", x.rests(0), 15);
+        due("and together", x.both(0, 1), 0);
         // Who goes alone is best off if the other one stays: 2 and 4.
         sheetOf(x, 0, 16, 0, 2, 1, -9, 0, 1, 2, -9);
         due("one of them", x.rests(0), 6);
@@ -846,6 +922,8 @@ public final class PromisesTest {
         sheetOf(x, 0, 16, 0, 2, 1, -9, 0, 1, 4, -9);
         due("most", x.both(0, 0), 5);
         due("of two rests", x.both(0, 1), 0);
+        sheetOf(x, 0, 16, 9, 0, 0, 0, 8, 0, 0, 0);
+        due("both stay", x.both(0, 0), 17);
         sheetOf(x, 0, 16, 1, 0, 0, 1, 0, 1, 1, 0);
         due("most", x.both(0, 0), 1);
         due("no rest", x.both(0, 1), NONE);
@@ -985,8 +1063,9 @@ public final class PromisesTest {
         due("far", x.copy(0, 1, 1, 1, Integer.MAX_VALUE), BEYOND);
         due("none", x.copy(0, 5, 1, 3, 0), 0);
         due("none, behind the end", x.copy(0, 6, 1, 0, 0), BEYOND);
+        due("all of the second", x.copy(0, 0, 1, 0, 3), 3);
         due("two", x.copy(0, 3, 1, 1, 2), 2);
-        due("0th", x.write(1, 0, 0), 0);
+        due("0th", x.write(1, 0, 0), 1);
         due("1st", x.write(1, 1, 0), 4);
         due("2nd", x.write(1, 2, 0), 5);
         due("upwards", x.copy(0, 0, 0, 1, 4), 4);
@@ -1014,6 +1093,15 @@ public final class PromisesTest {
         due("fuel", x.thing(2), 4);
         due("score", x.thing(3), 80 + 80 + 90);
         due("risk", x.thing(4), 7);
+        FuelTurns y = new FuelTurns();
+        y.plan(5, 60);
+        y.move(12);
+        sheetOf(y, 0, 8, -24, 24, -25, 25);
+        due("24 down, 24 up", y.turns(0), 2);
+        due("up", y.thing(1), 12);
+        y.plan(5, 47);
+        due("24 down, no fuel for 24 up", y.turns(0), 1);
+        due("down", y.thing(1), -12);
         x.sheet(1, 8, 0);
         due("none", x.turns(1), 0);
         x.sheet(1, 8, 40);
