@@ -1,13 +1,5 @@
 /** Each promise of the document by hand: ordinary inputs, the edges that it names, and wrong inputs. */
-public final class PromisesTest {
-    private static final int BEYOND = -1000000001;
-    private static final int FULL = -1000000002;
-    private static final int KIND = -1000000003;
-    private static final int NONE = -1000000004;
-    private static final int STATE = -1000000005;
-    private static final int MISSING = -1000000006;
-    private static final int SIZE = -1000000007;
-
+public final class PromisesTest extends Given {
     private static int promise = 0;
 
     private PromisesTest() {
@@ -70,34 +62,10 @@ public final class PromisesTest {
         Check.due("promise " + promise + ": " + what, got, want);
     }
 
-    /** A WARNING on a DAY at a HEIGHT with a WIDTH. */
-    private static int on(int day, int at, int width) {
-        return 10000 * day + 100 * (at + 12) + width;
-    }
-
-    private static void feedText(FuelTurns x, String text) {
-        for (int i = 0; i < text.length(); i++) {
-            x.feed(text.charAt(i), 1);
-        }
-    }
-
-    private static int ruleOf(FuelTurns x, String text) {
-        x.wipe();
-        feedText(x, text);
-        return x.rule();
-    }
-
     private static FuelTurns ruled(String text) {
         FuelTurns x = new FuelTurns();
         due("rule " + text, ruleOf(x, text), 0);
         return x;
-    }
-
-    private static void sheetOf(FuelTurns x, int s, int bits, long... numbers) {
-        x.sheet(s, bits, numbers.length);
-        for (int i = 0; i < numbers.length; i++) {
-            x.write(s, i, numbers[i]);
-        }
     }
 
     private static void newObject() {
