@@ -107,6 +107,20 @@ public final class BestEdgesTest extends Given {
             due(y.best(1, 0), -250000);
             moves(y, -23 * side);
         }
+        sentence("MOVES that take all FUEL that there can be");
+        FuelTurns w = at(0, 60);
+        w.plan(USE, 0);
+        for (int day = 1; day <= 3; day++) {
+            int side = day == 2 ? -1 : 1;
+            w.warn(0, on(day, -2 * side, 9), 1000000);
+            w.warn(0, on(day, 10 * side, 2), 1000000);
+        }
+        moves(w, -12, 24, -24);
+        due(w.best(3, 1), 60);
+        due(w.best(3, 0), 0);
+        w.plan(KEEP, 1);
+        due(w.best(3, 1) < 60 ? 1 : 0, 1);
+        due(w.best(3, 0) < 0 ? 1 : 0, 1);
         sentence("MOVES lead to a HEIGHT of -12 to 12");
         FuelTurns z = at(12, 60);
         z.plan(USE, 0);
@@ -116,6 +130,15 @@ public final class BestEdgesTest extends Given {
         u.plan(USE, 0);
         u.warn(0, on(1, -12, 0), 1000000);
         moves(u, 1);
+        // What is worth as much at the other end, a DAY later, is not one step further.
+        for (int side = -1; side <= 1; side += 2) {
+            FuelTurns v = at(12 * side, 60);
+            v.plan(USE, 0);
+            v.warn(0, on(1, 12 * side, 0), 1000000);
+            v.warn(0, on(1, 11 * side, 0), 1000000);
+            v.warn(0, on(3, -12 * side, 0), 1000000);
+            moves(v, -2 * side, 0, 0);
+        }
     }
 
     private static void oneAheadOfEachEnd() {

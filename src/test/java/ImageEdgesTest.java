@@ -70,6 +70,7 @@ public final class ImageEdgesTest extends Given {
             x.plan(what, 1 + what);
         }
         x.plan(FUEL, 60);
+        x.plan(USE, 50);
         x.move(5);
         x.look(1, 70, true);
         x.warn(0, on(3, 1, 0), 5);
@@ -85,6 +86,7 @@ public final class ImageEdgesTest extends Given {
         changeAll(x);
         due(x.thing(0), 5);
         due(x.count(0), 3);
+        due(x.thing(3), 344 + 3 * 47);
         due(x.undo(), 2);
         isFull(x);
         sentence("undo: it becomes what was kept latest (which stays)");
@@ -141,6 +143,12 @@ public final class ImageEdgesTest extends Given {
         due(x.warn(2, on(7, 2, 2), 8), 1);
         due(x.of(1, 0), 2);
         due(x.of(1, 5), 0);
+        x.look(1, 60, true);
+        x.undo();
+        due(x.warn(3, on(7, 2, 2), 8), 1);
+        due(x.of(1, 5), 0);
+        due(x.count(2), 0);
+        x.undo();
         sentence("image: what is only thought of changes nothing of it, either");
         ruleOf(x, "1");
         x.life(3, 100);

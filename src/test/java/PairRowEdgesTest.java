@@ -228,6 +228,16 @@ public final class PairRowEdgesTest extends Given {
         due(sheeted(8, 49, 0).swarm(0, 50, 0, 0), NONE);
         sentence("(those that aren't next to each other may be where the other one is)");
         due(sheeted(8, 0, 50, 0, 50).swarm(0, 50, 0, 0), 0);
+        sentence("(those that are far apart have room on both sides)");
+        for (int most = 0; most <= 20; most += 5) {
+            row(sheeted(8, 100, 0), 50, most, 0, 0);
+            row(sheeted(8, -100, 100), 50, most, 0, 0);
+            row(sheeted(8, 100, -100, 100), 50, most, 0, 0, 0);
+        }
+        row(sheeted(8, 100, 5, 0, -10), 10, 5, 0, 5, 0, 0);
+        row(sheeted(8, -100, -5, 0, 10), 10, 5, 0, -5, 0, 0);
+        row(sheeted(8, 100, 20, 0, -40), 40, 20, 0, 20, 0, 0);
+        row(sheeted(8, -100, -20, 0, 40), 40, 20, 0, -20, 0, 0);
         sentence("(one may move past the other)");
         row(sheeted(8, 0, 1, 3), 3, 20, 0, -4, 0);
         row(sheeted(8, 0, 2, 3), 3, 20, 0, 4, 0);

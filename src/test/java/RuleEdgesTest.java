@@ -18,6 +18,7 @@ public final class RuleEdgesTest extends Given {
         openAtOnce();
         endsTooEarly();
         faultChangesNothing();
+        faultLeavesNothing();
         ruleTakesTheTape();
         drifts();
         saysLimits();
@@ -288,6 +289,26 @@ public final class RuleEdgesTest extends Given {
         due(x.rule(), -1);
         due(x.says(0), 5);
         due(x.count(3), 1);
+    }
+
+    /** One object reads one TEXT behind another: nothing of the one before is left. */
+    private static void faultLeavesNothing() {
+        sentence("rule: a FAULT changes nothing of what is read next");
+        String[] wrong = {"(((((", "-----", "1=2&", "1=1?3", "1234567x", "1=2?", "1=1?5:(", "((-12", "1=2&1=1?3:"};
+        String[] right = {"(((((7)))))", "-----7", "1=1?7:8", "1=2?8:7", "1234567", "1=2?8:1=2?9:7"};
+        int[] told = {7, -7, 7, 7, 1234567, 7};
+        for (String fault : wrong) {
+            FuelTurns x = new FuelTurns();
+            for (int i = 0; i < right.length; i++) {
+                due(ruleOf(x, fault) < 0 ? 1 : 0, 1);
+                due(ruleOf(x, right[i]), 0);
+                due(x.says(0), told[i]);
+                x.wipe();
+                feedText(x, fault);
+                x.rule();
+                due(x.says(0), told[i]);
+            }
+        }
     }
 
     private static void ruleTakesTheTape() {

@@ -453,6 +453,12 @@ public final class WarningEdgesTest extends Given {
         FuelTurns y = at(1, 0);
         y.warn(0, on(1, 0, 4), 1000);
         due(y.safest(1), 5);
+        y.warn(0, on(2, 1, 0), 1000);
+        due(y.safest(2), 0);
+        y.warn(0, on(2, 0, 0), 1000);
+        due(y.safest(2), 2);
+        y.warn(0, on(2, 2, 0), 1000);
+        due(y.safest(2), -1);
         FuelTurns z = at(-12, 0);
         z.warn(0, on(1, -12, 9), 1000);
         z.warn(0, on(1, 2, 9), 1000);
@@ -463,6 +469,11 @@ public final class WarningEdgesTest extends Given {
         }
         u.warn(0, on(1, -8, 3), 1000);
         due(u.safest(1), -12);
+        due(u.safest(2), 12);
+        u.warn(0, on(2, 12, 0), 1);
+        due(u.safest(2), 11);
+        z.warn(0, on(2, -12, 0), 1);
+        due(z.safest(2), -11);
         sentence("safest (no HEIGHT is without DANGER)");
         FuelTurns v = at(3, 0);
         v.warn(3, on(1, 0, 9), 1000000);
