@@ -19,6 +19,7 @@ public final class ImageEdgesTest extends Given {
         statusByKind();
         statusStays();
         findingsInLongs();
+        allCalls();
         Check.end();
     }
 
@@ -413,5 +414,24 @@ public final class ImageEdgesTest extends Given {
         due(x.write(0, 0, 0), -1000000006L);
         x.days(1);
         due(x.know(0, 50, 1), -1000000005L);
+    }
+
+    private static void allCalls() {
+        sentence("An object is used for at most 512 calls after it has been made");
+        FuelTurns x = new FuelTurns();
+        for (int i = 0; i < 511; i++) {
+            x.undo();
+        }
+        due(x.status(3), 511);
+        FuelTurns y = warned(0, on(999, 0, 0), 500000);
+        for (int i = 0; i < 510; i++) {
+            due(y.look(0, 50, i % 2 == 0), 500000);
+        }
+        due(y.count(2), 510);
+        FuelTurns z = new FuelTurns();
+        for (int i = 0; i < 511; i++) {
+            due(z.days(1), i + 1);
+        }
+        due(z.thing(3), 51100);
     }
 }
