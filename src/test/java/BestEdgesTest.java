@@ -302,6 +302,10 @@ public final class BestEdgesTest extends Given {
         due(x.rest(7), 28);
         due(x.rest(8), 32 - 1000000);
         due(x.thing(0), 0);
+        sentence("rest: if it does nothing (BY THE RULE, neither)");
+        ruleOf(x, "-1");
+        due(x.rest(7), 28);
+        due(x.best(1, 3), -12);
     }
 
     private static void homeLimits() {
@@ -462,6 +466,23 @@ public final class BestEdgesTest extends Given {
         x.plan(HARM, 1);
         due(x.best(1, 0), 0);
         due(x.know(0, 100, 1), 0);
+        // Without a LOOK 100 less 1 (1.5, cut); with one 97 or 100, which is 98.5, cut.
+        sentence("KNOW: may be below 0, as quotients are cut");
+        FuelTurns z = warned(0, on(1, 0, 0), 500000);
+        z.plan(FUEL, 0);
+        z.plan(HARM, 3);
+        due(z.best(1, 0), 99);
+        due(z.know(0, 100, 1), -1);
+        // One step up costs 1 (1.02, cut), staying 3 or 0, half and half: -0.5 is cut to 0 before -1 goes off.
+        sentence("KNOW: .. together by 1000000; .. less what it is worth now (in this order)");
+        FuelTurns u = warned(0, on(1, 0, 0), 500000);
+        u.warn(0, on(1, 1, 0), 340000);
+        u.warn(0, on(1, -1, 0), 1000000);
+        u.plan(FUEL, 1);
+        u.plan(USE, 0);
+        u.plan(HARM, 3);
+        due(u.best(1, 0), -1);
+        due(u.know(0, 100, 1), 1);
         // m is (500001 * 51 + 499999 * 49) by 100: 500000.02; by 499999.
         sentence("KNOW: m by 100, cut");
         FuelTurns y = warned(0, on(1, 0, 0), 500001);

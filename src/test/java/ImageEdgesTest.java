@@ -124,7 +124,12 @@ public final class ImageEdgesTest extends Given {
         y.sheet(1, 16, 3);
         y.undo();
         due(y.write(0, 0, 9), 9);
+        due(y.write(0, 1, 2), 2);
         due(y.write(1, 2, 0), 0);
+        y.tear();
+        y.image();
+        due(y.write(0, 0, 9), 9);
+        due(y.write(0, 1, 2), 2);
     }
 
     private static void imageIsApart() {
@@ -253,6 +258,19 @@ public final class ImageEdgesTest extends Given {
         due(x.image(), 1);
         due(x.undo(), 2);
         due(x.tear(), 1);
+        sentence("tear: (it stays what it is now)");
+        FuelTurns y = full();
+        FuelTurns z = full();
+        z.image();
+        changeAll(z);
+        z.image();
+        z.days(1);
+        due(z.tear(), 1);
+        due(z.thing(0), 6);
+        due(z.thing(1), 1);
+        y.image();
+        due(y.tear(), 1);
+        isFull(y);
     }
 
     private static void countLimits() {

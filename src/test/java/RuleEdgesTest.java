@@ -467,6 +467,8 @@ public final class RuleEdgesTest extends Given {
             y.warn(0, on(1 + i, 0, 0), 0);
         }
         due(toldBy(y, "f"), 60);
+        y.plan(KEEP, 50);
+        due(toldBy(y, "f"), 60);
         due(toldBy(y, "h"), 12);
         due(toldBy(y, "n"), 12);
         y.days(1);

@@ -320,6 +320,13 @@ public final class ThingEdgesTest extends Given {
         due(x.runs(2), 5);
         due(x.thing(1), 4);
         due(x.thing(2), 5);
+        sentence("runs: THE RULE is asked anew ahead of each end, in one call, too");
+        FuelTurns z = new FuelTurns();
+        ruleOf(z, "t=0?3:t=1?-1:t=2?0-h:1");
+        due(z.runs(4), 4);
+        due(z.thing(1), 1);
+        due(z.thing(2), 2);
+        due(z.thing(3), 70 + 80 + 100 + 90);
         sentence("BY THE RULE (without one: 0)");
         FuelTurns y = at(5, 9);
         due(y.runs(100), 100);

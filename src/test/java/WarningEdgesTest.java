@@ -474,6 +474,13 @@ public final class WarningEdgesTest extends Given {
         due(u.safest(2), 11);
         z.warn(0, on(2, -12, 0), 1);
         due(z.safest(2), -11);
+        sentence("safest: on a DAY (that is over, too)");
+        FuelTurns w = warned(0, on(1, 0, 2), 1000);
+        w.days(1);
+        due(w.safest(1), -3);
+        w.days(1);
+        due(w.safest(1), -3);
+        due(w.safest(2), 0);
         sentence("safest (no HEIGHT is without DANGER)");
         FuelTurns v = at(3, 0);
         v.warn(3, on(1, 0, 9), 1000000);
