@@ -543,7 +543,7 @@ public final class FuelTurns {
         return all;
     }
 
-    // ---- what the calls are made of
+    // What the calls are made of.
 
     /** Counts a finding that is about to be answered. */
     private int finding(int which) {
