@@ -1134,8 +1134,11 @@ public final class FuelTurns {
             for (int place = 0; place < HEIGHTS; place++) {
                 long gain = world.worthOf(world.today + 1 + day, place - TOP);
                 gains[day * HEIGHTS + place] = gain;
+                int here = cell(day, place, 0);
+                int next = cell(day + 1, place, 0);
                 for (int left = 0; left <= budget; left++) {
-                    values[cell(day, place, left)] = gain * SCALE + valueFrom(day + 1, place, left);
+                    long later = day < days - 1 ? values[next + left] : 0;
+                    values[here + left] = gain * SCALE + later;
                 }
             }
         }
@@ -1154,9 +1157,13 @@ public final class FuelTurns {
         }
 
         private void step(int day, int from, int to) {
+            int here = cell(day, from, 0);
+            int there = cell(day, to, 0);
             for (int left = 1; left <= budget; left++) {
-                int here = cell(day, from, left);
-                values[here] = Math.max(values[here], values[cell(day, to, left - 1)] - 1);
+                long moved = values[there + left - 1] - 1;
+                if (moved > values[here + left]) {
+                    values[here + left] = moved;
+                }
             }
         }
 
